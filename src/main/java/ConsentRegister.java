@@ -726,7 +726,7 @@ public final class ConsentRegister {
 
     int addPut(int person, int kind, int value, int day) {
       int item = begin(kind, day, 1 << person);
-      if (item != NONE) {
+      if (has(item)) {
         ways[item] = PUT;
         values[item] = value;
       }
@@ -736,7 +736,7 @@ public final class ConsentRegister {
     int addDerived(int how, int first, int second) {
       int item = begin(kindOf(first), Math.max(dayOf(first), dayOf(second)),
           personsOf(first) | personsOf(second));
-      if (item != NONE) {
+      if (has(item)) {
         ways[item] = how;
         firsts[item] = first;
         seconds[item] = second;

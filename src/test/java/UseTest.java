@@ -6,9 +6,13 @@ public final class UseTest {
     consentOfEachPerson();
     contract();
     duty();
+    dutyOfAnotherKind();
     hold();
     holdOfPersonShutsOut();
+    onlyHoldIsOfPerson();
     firstGroundCounts();
+    emptyTables();
+    fullTables();
     logIsFull();
     Run.end();
   }
@@ -79,6 +83,12 @@ public final class UseTest {
     run.due("duty(0, 1, 7)", 2).due("use(0, 1, 24479)", 500).badState("use(0, 1, 24480)");
   }
 
+  private static void dutyOfAnotherKind() {
+    Run run = start("12 duty of another kind");
+    run.due("duty(1, 1, 5)", 1).badState("use(0, 1, 17280)").due("use(1, 1, 17280)", -7)
+        .due("why()", 3);
+  }
+
   private static void hold() {
     Run run = start("12 hold");
     run.due("derive(1, 0, 1)", 2).due("derive(1, 1, 0)", 3).due("hold(100, 1, 20)", 0);
@@ -102,6 +112,12 @@ public final class UseTest {
     run.goes("lift(1, 22)").badState("use(0, 1, 31679)").due("use(0, 1, 31680)", 500).due("why()", 1);
   }
 
+  private static void onlyHoldIsOfPerson() {
+    Run run = start("12 a hold of a person shuts out, also as the only one");
+    run.due("consent(3, 0, true, 0)", 1).due("hold(3, 1, 20)", 0).badState("use(0, 0, 28800)")
+        .due("use(0, 0, 28799)", 500).due("use(0, 1, 28800)", 500).due("why()", 4);
+  }
+
   private static void firstGroundCounts() {
     Run run = start("13 the first ground counts");
     run.due("hold(100, 1, 0)", 0).due("use(0, 1, 15000)", 500).due("why()", 4);
@@ -112,6 +128,32 @@ public final class UseTest {
         .due("why()", 2).due("peek(0)", 500).due("why()", 2);
     run.due("logged(0, 3)", 4).due("logged(1, 3)", 3).due("logged(2, 3)", 2).due("logged(3, 3)", 1)
         .due("logged(4, 3)", 2);
+  }
+
+  /** Of the first person, kind and day: what was never entered must not count as entered with noughts. */
+  private static void emptyTables() {
+    Run run = new Run("12 tables without entries give no ground");
+    run.due("kind(1)", 0).due("put(0, 0, 9, 0)", 0).badState("use(0, 0, 0)").due("look(0, 3)", -1)
+        .due("consent(0, 0, true, 0)", 1).due("use(0, 0, 0)", 9).due("why()", 1)
+        .due("erase(0, 0)", 1);
+  }
+
+  private static void fullTables() {
+    Run run = new Run("12 full tables are read to their ends");
+    run.dueCounting("purpose(0)", 15, 1).dueCounting("kind(1)", 8, 0)
+        .dueCounting("consent(1, 0, false, 0)", 99, 1).due("consent(15, 15, true, 0)", 100)
+        .dueCounting("contract(1, 1, 0, 0)", 39, 1).due("contract(14, 15, 0, 99)", 40)
+        .dueCounting("duty(0, 1, 1)", 19, 1).due("duty(7, 15, 50)", 20)
+        .dueCounting("event(1, 0, 0)", 59, 1).due("event(13, 6, 33)", 60)
+        .dueCounting("hold(1, 0, 0)", 29, 0).due("hold(105, 15, 0)", 29);
+    run.due("put(15, 6, 1, 0)", 0).due("put(14, 6, 2, 0)", 1).due("put(13, 7, 3, 0)", 2)
+        .due("put(13, 5, 4, 0)", 3).due("put(13, 6, 5, 0)", 4).dueCounting("put(12, 6, 6, 0)", 95, 5);
+    run.due("use(0, 15, 0)", 1).due("why()", 1).due("use(1, 15, 0)", 2).due("why()", 2)
+        .due("use(2, 15, 0)", 3).due("why()", 3).due("use(3, 15, 0)", 4).due("why()", 4)
+        .badState("use(4, 15, 0)").due("look(4, 3)", 34).due("look(99, 3)", -1).due("look(99, 4)", 0);
+    run.due("sweep(33)", 0).due("sweep(34)", 1).due("held(12, 94)", 99).due("held(12, 95)", -1)
+        .due("erase(12, 0)", 95).due("erase(13, 0)", 0).due("erase(13, 72000)", 1)
+        .due("state(3)", 3);
   }
 
   private static void logIsFull() {
