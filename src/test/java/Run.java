@@ -3,10 +3,12 @@ import java.lang.reflect.Method;
 
 /** One run of calls, written as texts, on a new object; tells each answer that is not the one due. */
 final class Run {
+  private static final int MOST_CALLS = 512;
   private static int wrong = 0;
 
   private final String name;
   private final ConsentRegister register = new ConsentRegister();
+  private int calls;
 
   Run(String name) {
     this.name = name;
@@ -41,7 +43,36 @@ final class Run {
     return this;
   }
 
+  /** With each number outside of these two for the call's sign #; the nearest ones and the farthest. */
+  Run outside(String call, int first, int last) {
+    for (int number : new int[] {Integer.MIN_VALUE, first - 1, last + 1, Integer.MAX_VALUE}) {
+      badArgument(with(call, number));
+    }
+    return this;
+  }
+
+  /**
+   * The call's sign # may be a number from the first to the last one. The answers count up, so that
+   * a refused call that was counted all the same is seen.
+   */
+  Run takes(String call, int first, int last, int answer) {
+    return outside(call, first, last).due(with(call, first), answer).outside(call, first, last)
+        .due(with(call, last), answer + 1).outside(call, first, last);
+  }
+
+  static String with(String call, int number) {
+    return call.replace("#", Integer.toString(number));
+  }
+
+  int callsMade() {
+    return calls;
+  }
+
   Run due(String call, String answer) {
+    calls++;
+    if (calls > MOST_CALLS) {
+      tell(name + ": the document does not say what " + call + " answers, which is call " + calls);
+    }
     String got = answer(register, call);
     if (!got.equals(answer)) {
       tell(name + ": " + call + " answered " + got + ", due is " + answer);
