@@ -7,21 +7,25 @@ import java.util.TreeSet;
 
 /** The document's public face, and LANGUAGE.md's rules 1, 2, 5 and 11 as far as the class file shows them. */
 public final class FaceTest {
+  private static final String ARGUMENT = " throws IllegalArgumentException";
+  private static final String ARGUMENT_STATE = ARGUMENT + ", IllegalStateException";
+  private static final String ELEMENT_ARGUMENT_STATE =
+      " throws NoSuchElementException, IllegalArgumentException, IllegalStateException";
   private static final Set<String> FACE = Set.of(
-      "int purpose(int)",
-      "int kind(int)",
-      "int consent(int,int,boolean,int)",
-      "int contract(int,int,int,int)",
-      "int duty(int,int,int)",
-      "int put(int,int,int,int)",
-      "int derive(int,int,int)",
-      "int event(int,int,int)",
-      "int hold(int,int,int)",
-      "void lift(int,int)",
-      "long use(int,int,int)",
+      "int purpose(int)" + ARGUMENT_STATE,
+      "int kind(int)" + ARGUMENT_STATE,
+      "int consent(int,int,boolean,int)" + ARGUMENT_STATE,
+      "int contract(int,int,int,int)" + ARGUMENT_STATE,
+      "int duty(int,int,int)" + ARGUMENT_STATE,
+      "int put(int,int,int,int)" + ARGUMENT_STATE,
+      "int derive(int,int,int)" + ELEMENT_ARGUMENT_STATE,
+      "int event(int,int,int)" + ARGUMENT_STATE,
+      "int hold(int,int,int)" + ARGUMENT_STATE,
+      "void lift(int,int)" + ARGUMENT_STATE,
+      "long use(int,int,int)" + ELEMENT_ARGUMENT_STATE,
       "int why()",
-      "int erase(int,int)",
-      "int sweep(int)",
+      "int erase(int,int)" + ARGUMENT,
+      "int sweep(int)" + ARGUMENT,
       "int held(int,int)",
       "int logged(int,int)",
       "long peek(int)",
@@ -47,7 +51,13 @@ public final class FaceTest {
     for (Class<?> type : method.getParameterTypes()) {
       text.append(text.charAt(text.length() - 1) == '(' ? "" : ",").append(type);
     }
-    return text.append(")").toString();
+    text.append(")");
+    String before = " throws ";
+    for (Class<?> type : method.getExceptionTypes()) {
+      text.append(before).append(type.getSimpleName());
+      before = ", ";
+    }
+    return text.toString();
   }
 
   private static void publicFace() {
@@ -66,15 +76,19 @@ public final class FaceTest {
         && Modifier.isPublic(constructors[0].getModifiers()), "the constructor is not the one told");
   }
 
-  private static void membersAreHidden() {
-    Set<String> open = new TreeSet<>();
+  private static Set<String> publicNames() {
+    Set<String> names = new TreeSet<>();
     for (String signature : FACE) {
-      open.add(signature.substring(signature.indexOf(' ') + 1, signature.indexOf('(')));
+      names.add(signature.substring(signature.indexOf(' ') + 1, signature.indexOf('(')));
     }
+    return names;
+  }
+
+  private static void membersAreHidden() {
     for (Method method : ConsentRegister.class.getDeclaredMethods()) {
       int modifiers = method.getModifiers();
       check(Modifier.isPublic(modifiers) || Modifier.isPrivate(modifiers), method + " is seen");
-      check(Modifier.isPublic(modifiers) || !open.contains(method.getName()),
+      check(Modifier.isPublic(modifiers) || !publicNames().contains(method.getName()),
           method + " bears a public name");
       check(method.getParameterCount() <= 7, method + " takes too much");
     }
@@ -89,6 +103,10 @@ public final class FaceTest {
     for (Class<?> type : nested) {
       check(Modifier.isStatic(type.getModifiers()), type + " is not static");
       fields(type);
+      for (Method method : type.getDeclaredMethods()) {
+        check(!publicNames().contains(method.getName()), method + " bears a public name");
+        check(method.getParameterCount() <= 7, method + " takes too much");
+      }
     }
   }
 
